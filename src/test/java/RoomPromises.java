@@ -166,6 +166,17 @@ public final class RoomPromises {
         Check.due("3: setLink(2, 0, 6)", x.setLink(2, 0, 6), ILLEGAL);
         Check.due("3: setLink(2, 0, 5)", x.setLink(2, 0, 5), 0);
         Check.due("3: a wrong link is named first", x.setLink(0, 1, 51), INVALID);
+        // The links with the first and with the last room count, on either side.
+        ThermostatColony y = new ThermostatColony();
+        for (int room = 0; room < 6; room++) {
+            y.addRoom(room == 2 ? 20 : 500, 1, 0, 0);
+        }
+        Check.due("3: setLink(0, 2, 4)", y.setLink(0, 2, 4), 0);
+        Check.due("3: setLink(2, 5, 5)", y.setLink(2, 5, 5), 0);
+        Check.due("3: setLink(3, 2, 2)", y.setLink(3, 2, 2), ILLEGAL);
+        Check.due("3: setLink(3, 2, 1)", y.setLink(3, 2, 1), 0);
+        Check.due("3: setLink(3, 0, 50)", y.setLink(3, 0, 50), 0);
+        Check.due("3: setLink(5, 0, 50)", y.setLink(5, 0, 50), 0);
     }
 
     private static void promise4SetThermostat() {

@@ -381,6 +381,9 @@ public final class TimePromises {
         Check.due("20: fines till now", x.room(0, 8), 7);
         Check.due("20: the increase alone", x.finesWith(0, 100, 4), 7);
         Check.due("20: none in the next minutes", x.finesWith(0, 100, 3), 0);
+        Check.due("20: a minute before the closing", x.finesWith(0, 100, 1), 0);
+        x.pass(3);
+        Check.due("20: the minute of the closing", x.finesWith(0, 100, 1), 7);
         int[][] wrong = {{1, 100, 1}, {-1, 100, 1}, {0, 99, 1}, {0, 5001, 1}, {0, 100, 0}, {0, 100, 1001}, {0, 100, -1}};
         for (int[] call : wrong) {
             Check.due("20: finesWith(" + call[0] + ", " + call[1] + ", " + call[2] + ")",

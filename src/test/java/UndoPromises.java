@@ -9,6 +9,8 @@ public final class UndoPromises {
         atMostSixStates();
         theTextStays();
         timeRunsAnew();
+        finesComeBack();
+        linksComeBack();
         Check.end("UndoPromises");
     }
 
@@ -158,5 +160,31 @@ public final class UndoPromises {
         x.undo();
         Check.due("22: the same time again", x.pass(300), first);
         Check.holds("22: the same minutes again", after.equals(Colonies.portrait(x)));
+    }
+
+    private static void finesComeBack() {
+        ThermostatColony x = Colonies.quickBlade(100, 200, 5, 20);
+        x.setThermostat(0, 20000, 100);
+        x.pass(9);
+        Check.due("22: fines", x.room(0, 8), 14);
+        x.pass(4);
+        Check.due("22: more fines", x.room(0, 8), 21);
+        x.undo();
+        Check.due("22: fines after undo()", x.room(0, 8), 14);
+        Check.due("22: latest closing after undo()", x.room(0, 11), 8);
+    }
+
+    private static void linksComeBack() {
+        ThermostatColony x = new ThermostatColony();
+        for (int room = 0; room < 6; room++) {
+            x.addRoom(500, 1, 0, 0);
+        }
+        x.setLink(4, 5, 3);
+        x.setLink(5, 4, 9);
+        x.undo();
+        Check.due("22: link(4, 5)", x.link(4, 5), 3);
+        Check.due("22: link(5, 4)", x.link(5, 4), 3);
+        x.undo();
+        Check.due("22: link(4, 5) at first", x.link(4, 5), 0);
     }
 }

@@ -107,6 +107,9 @@ public final class WeatherPromises {
         failsAt("5=1:", 3);
         failsAt("5=1/", 3);
         failsAt("5=\u00b2", 2);
+        failsAt("\0", 0);
+        failsAt("\u00ff", 0);
+        failsAt("5=1;\0", 4);
         // Texts that end where something is missing.
         failsAt("5", 1);
         failsAt("5 ", 2);

@@ -1,0 +1,99 @@
+import java.lang.reflect.Constructor;
+import java.lang.reflect.Field;
+import java.lang.reflect.Method;
+import java.lang.reflect.Modifier;
+import java.nio.file.Files;
+import java.nio.file.Path;
+import java.util.Set;
+import java.util.TreeSet;
+import java.util.regex.Pattern;
+
+/** The public face of the document, and the rules of LANGUAGE.md that can be seen from outside. */
+public final class FaceAndLanguage {
+    private static final String SOURCE = "src/main/java/ThermostatColony.java";
+    private static final String[] METHODS = {"addRoom 4", "setLink 3", "setThermostat 3", "setNumber 2", "warm 2",
+            "service 1", "resetCutout 1", "room 2", "book 2", "link 2", "count 1", "appendCharacter 1", "clearText 0",
+            "load 0", "outside 1", "pass 1", "minutesToSuspect 1", "heatIn 1", "finesWith 3", "quietBand 2", "undo 0"};
+    private static final String[] CONSTANTS = {"INVALID_ARGUMENT", "ILLEGAL_STATE", "CAPACITY_EXCEEDED", "NONE"};
+
+    public static void main(String[] args) throws Exception {
+        methods();
+        constants();
+        constructors();
+        classesInside();
+        source();
+        Check.end("FaceAndLanguage");
+    }
+
+    private static void methods() {
+        Set<String> due = new TreeSet<>(Set.of(METHODS));
+        Set<String> names = new TreeSet<>();
+        for (String method : METHODS) {
+            names.add(method.substring(0, method.indexOf(' ')));
+        }
+        Set<String> found = new TreeSet<>();
+        for (Method method : ThermostatColony.class.getDeclaredMethods()) {
+            if (Modifier.isPublic(method.getModifiers())) {
+                found.add(method.getName() + " " + method.getParameterCount());
+                boolean ofInts = method.getReturnType() == int.class && !Modifier.isStatic(method.getModifiers());
+                for (Class<?> type : method.getParameterTypes()) {
+                    ofInts &= type == int.class;
+                }
+                Check.holds(method + " takes and answers int", ofInts);
+            } else {
+                Check.holds(method + " is private", Modifier.isPrivate(method.getModifiers()));
+                Check.holds(method + " has no public name", !names.contains(method.getName()));
+            }
+        }
+        Check.holds("the public methods are " + due + ", found " + found, due.equals(found));
+    }
+
+    private static void constants() throws Exception {
+        Set<String> due = new TreeSet<>(Set.of(CONSTANTS));
+        Set<String> found = new TreeSet<>();
+        for (Field field : ThermostatColony.class.getDeclaredFields()) {
+            int modifiers = field.getModifiers();
+            if (Modifier.isPublic(modifiers)) {
+                found.add(field.getName());
+                Check.holds(field + " is a constant", Modifier.isStatic(modifiers) && Modifier.isFinal(modifiers)
+                        && field.getType() == int.class);
+            } else {
+                Check.holds(field + " is private", Modifier.isPrivate(modifiers));
+            }
+        }
+        Check.holds("the public constants are " + due + ", found " + found, due.equals(found));
+    }
+
+    private static void constructors() {
+        Constructor<?>[] all = ThermostatColony.class.getDeclaredConstructors();
+        Check.holds("one public constructor without parameters", all.length == 1
+                && Modifier.isPublic(all[0].getModifiers()) && all[0].getParameterCount() == 0);
+        Check.holds("the class is public and final", Modifier.isPublic(ThermostatColony.class.getModifiers())
+                && Modifier.isFinal(ThermostatColony.class.getModifiers()));
+    }
+
+    private static void classesInside() {
+        Class<?>[] inside = ThermostatColony.class.getDeclaredClasses();
+        Check.holds("some twelve classes at most", inside.length <= 11);
+        for (Class<?> one : inside) {
+            Check.holds(one + " is private and static", Modifier.isPrivate(one.getModifiers())
+                    && Modifier.isStatic(one.getModifiers()));
+            Check.holds(one + " has some twenty fields at most", one.getDeclaredFields().length <= 20);
+            for (Field field : one.getDeclaredFields()) {
+                Check.holds(field + " is final if it is static", !Modifier.isStatic(field.getModifiers())
+                        || Modifier.isFinal(field.getModifiers()));
+            }
+        }
+    }
+
+    private static void source() throws Exception {
+        String code = Files.readString(Path.of(SOURCE)).replaceAll("(?s)/\\*.*?\\*/", "").replaceAll("//[^\n]*", "");
+        String[] words = {"throw", "throws", "try", "catch", "finally", "synchronized", "assert", "import", "package",
+                "System\\.(?!arraycopy)\\w+", "Thread", "Random", "Object", "Exact", "equals", "hashCode", "toString"};
+        for (String word : words) {
+            Check.holds("the class does without '" + word + "'", !Pattern.compile("\\b" + word + "\\b").matcher(code).find());
+        }
+        Check.holds("no lambda and no method reference", !code.contains("->") && !code.contains("::"));
+        Check.holds("signs 1 to 127 alone", code.chars().allMatch(sign -> sign >= 1 && sign <= 127));
+    }
+}
