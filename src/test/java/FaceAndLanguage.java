@@ -22,6 +22,7 @@ public final class FaceAndLanguage {
         constructors();
         classesInside();
         source();
+        methodsStaySmall();
         Check.end("FaceAndLanguage");
     }
 
@@ -95,5 +96,25 @@ public final class FaceAndLanguage {
         }
         Check.holds("no lambda and no method reference", !code.contains("->") && !code.contains("::"));
         Check.holds("signs 1 to 127 alone", code.chars().allMatch(sign -> sign >= 1 && sign <= 127));
+    }
+
+    /** "A method takes at most seven parameters. Methods stay short (some sixty lines)" */
+    private static void methodsStaySmall() throws Exception {
+        String[] lines = Files.readString(Path.of(SOURCE)).split("\n");
+        Pattern start = Pattern.compile("^ +[\\w<>\\[\\] ]+\\([\\w\\[\\], ]*\\) \\{$");
+        int found = 0;
+        for (int line = 0; line < lines.length; line++) {
+            if (start.matcher(lines[line]).find() && !lines[line].contains(" new ")) {
+                found++;
+                String indent = lines[line].substring(0, lines[line].length() - lines[line].stripLeading().length());
+                int end = line;
+                while (!lines[end].equals(indent + "}")) {
+                    end++;
+                }
+                Check.holds("'" + lines[line].strip() + "' is short", end - line <= 60);
+                Check.holds("'" + lines[line].strip() + "' has few parameters", lines[line].split(",").length <= 7);
+            }
+        }
+        Check.holds("the methods were found: " + found, found > 60);
     }
 }

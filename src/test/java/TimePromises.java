@@ -409,7 +409,7 @@ public final class TimePromises {
     private static void promise21QuietBand() {
         ThermostatColony x = everyFourMinutes();
         Check.due("21: the second closing is too late", x.quietBand(0, 4), 100);
-        // The bands up to 900 close again in minute 4, 1000 to 1900 in 9 at the latest.
+        // The bands up to 1000 close again in minute 4, 1100 to 1900 in minute 9 at the latest.
         Check.due("21: 2000 takes ten minutes", x.quietBand(0, 13), 2000);
         Check.due("21: 300 minutes", x.quietBand(0, 300) >= 2000 ? 1 : 0, 1);
         for (int wrong : new int[] {0, -1, 301, Integer.MIN_VALUE, Integer.MAX_VALUE}) {
@@ -447,13 +447,13 @@ public final class TimePromises {
         x.setLink(0, 1, 20);
         Colonies.load(x, "3=7;20=-20");
         x.pass(9);
-        String before = Colonies.portrait(x);
+        String before = Colonies.portraitOfState(x);
         int states = x.count(13);
         int quiet = x.quietBand(0, 300);
         int fines = x.finesWith(0, 4000, 1000);
         int heat = x.heatIn(1000);
         int suspect = x.minutesToSuspect(1);
-        Check.holds("18 to 21: forecasts change nothing", before.equals(Colonies.portrait(x)));
+        Check.holds("18 to 21: forecasts change nothing", before.equals(Colonies.portraitOfState(x)));
         Check.due("18 to 21: forecasts save nothing", x.count(13), states);
         Check.due("18: the same again", x.minutesToSuspect(1), suspect);
         Check.due("19: the same again", x.heatIn(1000), heat);

@@ -24,25 +24,6 @@ public final class UndoPromises {
         Check.due("22: count(13)", x.count(13), 0);
     }
 
-    /** A colony in which much has happened, with three saved states. */
-    private static ThermostatColony busy() {
-        ThermostatColony x = Colonies.quickBlade(100, 200, 3, 15);
-        x.addRoom(200, 50, 5, 35);
-        x.setLink(0, 1, 9);
-        Colonies.load(x, "0=9;50=-3");
-        x.setNumber(1, 200);
-        x.setNumber(5, 24000);
-        x.pass(4);
-        x.warm(1, -4000);
-        for (int i = 0; i < 3; i++) {
-            x.setNumber(2, 5);
-        }
-        for (int i = 0; i < 3; i++) {
-            x.undo();
-        }
-        return x;
-    }
-
     private static final int KINDS = 10;
 
     private static int save(ThermostatColony x, int kind) {
@@ -72,21 +53,21 @@ public final class UndoPromises {
 
     private static void eachSavingCall() {
         for (int kind = 0; kind < KINDS; kind++) {
-            ThermostatColony x = busy();
-            String before = Colonies.portrait(x);
+            ThermostatColony x = Colonies.busy();
+            String before = Colonies.portraitOfState(x);
             int saved = x.count(13);
             Check.holds("22: kind " + kind + " is successful", save(x, kind) >= 0);
             Check.due("22: states after kind " + kind, x.count(13), saved + 1);
             boolean changes = kind != KINDS - 1;
-            Check.holds("22: kind " + kind + " changes", before.equals(Colonies.portrait(x)) != changes);
+            Check.holds("22: kind " + kind + " changes", before.equals(Colonies.portraitOfState(x)) != changes);
             Check.due("22: undo() of kind " + kind, x.undo(), saved);
-            Check.holds("22: undo() of kind " + kind + " restores all", before.equals(Colonies.portrait(x)));
+            Check.holds("22: undo() of kind " + kind + " restores all", before.equals(Colonies.portraitOfState(x)));
         }
     }
 
     private static void callsThatSaveNothing() {
-        ThermostatColony x = busy();
-        String before = Colonies.portrait(x);
+        ThermostatColony x = Colonies.busy();
+        String before = Colonies.portraitOfState(x);
         int saved = x.count(13);
         x.addRoom(9, 1, 1, 1);
         x.setLink(0, 1, 50);
@@ -111,7 +92,7 @@ public final class UndoPromises {
         x.finesWith(0, 100, 1000);
         x.quietBand(0, 300);
         Check.due("22: states after calls that save nothing", x.count(13), saved);
-        Check.holds("22: such calls change nothing", before.equals(Colonies.portrait(x)));
+        Check.holds("22: such calls change nothing", before.equals(Colonies.portraitOfState(x)));
     }
 
     private static void atMostSixStates() {
@@ -150,16 +131,16 @@ public final class UndoPromises {
     }
 
     private static void timeRunsAnew() {
-        ThermostatColony x = busy();
-        String before = Colonies.portrait(x);
+        ThermostatColony x = Colonies.busy();
+        String before = Colonies.portraitOfState(x);
         int first = x.pass(300);
-        String after = Colonies.portrait(x);
+        String after = Colonies.portraitOfState(x);
         x.undo();
-        Check.holds("22: undo() of pass()", before.equals(Colonies.portrait(x)));
+        Check.holds("22: undo() of pass()", before.equals(Colonies.portraitOfState(x)));
         x.setNumber(3, 120);
         x.undo();
         Check.due("22: the same time again", x.pass(300), first);
-        Check.holds("22: the same minutes again", after.equals(Colonies.portrait(x)));
+        Check.holds("22: the same minutes again", after.equals(Colonies.portraitOfState(x)));
     }
 
     private static void finesComeBack() {

@@ -155,11 +155,11 @@ public final class WeatherPromises {
         ThermostatColony x = new ThermostatColony();
         Colonies.load(x, "10=-5;20=15");
         x.addRoom(100, 1, 1, 0);
-        String before = Colonies.portrait(x);
+        String before = Colonies.portraitOfState(x);
         Colonies.write(x, "1=1;2=2;3=3;4=x");
         Check.due("15: load() with an error", x.load(), -24);
         Check.due("15: load() with the same error", x.load(), -24);
-        Check.holds("15: nothing changes on an error", before.equals(Colonies.portrait(x)));
+        Check.holds("15: nothing changes on an error", before.equals(Colonies.portraitOfState(x)));
         Check.due("15: the text is kept", x.count(12), 15);
         Check.due("15: nothing is saved on an error", x.count(13), 2);
     }
