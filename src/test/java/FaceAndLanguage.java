@@ -23,6 +23,7 @@ public final class FaceAndLanguage {
         classesInside();
         source();
         methodsStaySmall();
+        objectsAreMadeInConstructors();
         Check.end("FaceAndLanguage");
     }
 
@@ -116,5 +117,26 @@ public final class FaceAndLanguage {
             }
         }
         Check.holds("the methods were found: " + found, found > 60);
+    }
+
+    /** README.md: "No call makes an object": each "new" is a field's, or stands in a constructor. */
+    private static void objectsAreMadeInConstructors() throws Exception {
+        Pattern field = Pattern.compile("^ +(private )?final [\\w\\[\\]]+ \\w+ = new .*;$");
+        Pattern constructor = Pattern.compile("^ +(public )?[A-Z]\\w*\\(\\) \\{$");
+        String ofConstructor = "";
+        int found = 0;
+        for (String line : Files.readString(Path.of(SOURCE)).split("\n")) {
+            if (constructor.matcher(line).find()) {
+                ofConstructor = line.substring(0, line.length() - line.stripLeading().length());
+            } else if (line.equals(ofConstructor + "}")) {
+                ofConstructor = "";
+            }
+            if (Pattern.compile("\\bnew\\b").matcher(line.replaceAll("^ *(/?\\*|//).*", "")).find()) {
+                found++;
+                Check.holds("'" + line.strip() + "' is made with the object",
+                        field.matcher(line).find() || !ofConstructor.isEmpty());
+            }
+        }
+        Check.holds("what is made was found: " + found, found > 10);
     }
 }
